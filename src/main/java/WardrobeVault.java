@@ -838,9 +838,9 @@ public final class WardrobeVault {
 
     private void hangWhatIsDone() {
         for (int i = 0; i < MAX_ORDERS; i++) {
-            int rail = stock.lowestRail();
-            Order done = rail == NONE ? null : tailors.firstDone();
-            if (done == null) {
+            Order done = tailors.firstDone();
+            int rail = done == null ? NONE : stock.lowestRail();
+            if (rail == NONE) {
                 return;
             }
             tailors.drop(done);
