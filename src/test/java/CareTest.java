@@ -7,12 +7,15 @@ final class CareTest {
         noonIsTheEnd();
         twoMachines();
         heaviestFirst();
+        loadsFillUp();
+        firstLoadWithPlace();
         tooHeavyForALoad();
         washesRailsOnly();
         hanging();
         hangWrong();
         moths();
         mothsSpread();
+        mothsSpreadBackwards();
         mothsElsewhere();
         quarantines();
         quarantineHeals();
@@ -103,6 +106,29 @@ final class CareTest {
         WardrobeVault w = worn(row(11, 0), weights);
         Due.is("28 nine loads", w.wash(), 9);
         Due.same("28 the lightest ones are last", clean(w, 11), "01101111111");
+    }
+
+    private static void loadsFillUp() {
+        // Three of 20 are a load; five loads of four hours, of which four are dry by noon.
+        WardrobeVault v = worn(row(15, 2), row(15, 20));
+        Due.is("28 three a load", v.wash(), 12);
+        Due.same("28 the last load", clean(v, 15), "111111111111000");
+        WardrobeVault w = worn(row(10, 2), row(10, 21));
+        Due.is("28 two a load", w.wash(), 8);
+    }
+
+    private static void firstLoadWithPlace() {
+        // 41, 40, 39, 38, then 20 into the second load and 19 into the first one: 60 each; 22 and 21
+        // go with 38 and 39, so that the fifth load holds the 10 alone.
+        int[] weights = {10, 19, 20, 21, 22, 38, 39, 40, 41};
+        WardrobeVault v = worn(row(9, 2), weights);
+        Due.is("28 five loads", v.wash(), 8);
+        Due.same("28 the lightest one is late", clean(v, 9), "011111111");
+        // 30, 30 fill the first; 25, 25, 10 the second, and the 10 would have had place in the third.
+        int[] more = {60, 60, 30, 25, 30, 25, 20, 10};
+        WardrobeVault w = worn(row(8, 2), more);
+        Due.is("28 the fifth one is late", w.wash(), 7);
+        Due.same("28 the first with place takes it", clean(w, 8), "11111101");
     }
 
     private static void tooHeavyForALoad() {
@@ -204,6 +230,20 @@ final class CareTest {
         v.piece(3, 0, 0, 0, 100, 1);
         v.pass(1);
         Due.is("32 later than seven days", v.told(3, 'm'), 1);
+    }
+
+    private static void mothsSpreadBackwards() {
+        WardrobeVault v = new WardrobeVault();
+        v.piece(0, 0, 0, 0, 100, 1);
+        v.piece(0, 0, 0, 0, 100, 1);
+        v.moths(1);
+        v.pass(7);
+        Due.is("32 to the lowest piece", v.told(0, 'm') * 10 + v.told(0, 'u'), 11);
+        v.quarantine(0);
+        v.quarantine(1);
+        v.piece(0, 0, 0, 0, 100, 1);
+        v.pass(2);
+        Due.is("32 the rail itself has none", v.told(2, 'm'), 0);
     }
 
     private static void mothsElsewhere() {

@@ -286,6 +286,12 @@ final class ShowsTest {
         v.measure(3, 5, 103, 103, 103);
         v.pass(5);
         Due.is("22 for today", v.fit(0), 1);
+        v.wish(0, 0, 3, 1, 0, 0);
+        Due.is("22 nothing is given", v.fit(0), 0);
+        v.piece(1, 1, 0, 0, 102, 1);
+        v.quarantine(1);
+        v.dress(0);
+        Due.is("22 some costumes without a piece", v.fit(0), 1);
         Due.is("22 let out", v.told(3, 'l'), 103);
     }
 
@@ -481,6 +487,12 @@ final class ShowsTest {
         v.wish(0, 0, 0, 2, 0, 0);
         v.dress(0);
         Due.unsupported("27 a costume without a piece", () -> v.play(0));
+        WardrobeVault first = house(1, 1);
+        first.piece(1, 1, 0, 0, 100, 1);
+        first.wish(0, 0, 0, 0, 0, 0);
+        first.wish(0, 0, 0, 1, 0, 0);
+        first.dress(0);
+        Due.unsupported("27 the first costume without a piece", () -> first.play(0));
     }
 
     private static void playRefusedByChange() {

@@ -97,6 +97,9 @@ final class SumsTest {
         Due.isExactly("44 but for what is gone", v.meanWear(), 1);
         v.lose(1);
         Due.isExactly("44 the hired one", v.meanWear(), 0);
+        WardrobeVault worn = house();
+        worn.play(0);
+        Due.isExactly("44 of all", worn.meanWear(), 4.0 / 3.0);
     }
 
     private static void nothingLeft() {

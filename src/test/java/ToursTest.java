@@ -13,6 +13,7 @@ final class ToursTest {
         loses();
         unpacksOntoTheLowestRails();
         unpackWrong();
+        packsAgainAndAgain();
         hires();
         hireWrong();
         takesBack();
@@ -220,6 +221,33 @@ final class ToursTest {
         v.lose(0);
         Due.is("36 a lost one is unpacked", v.unpack(), 0);
         Due.badState("36 then there are none", v::unpack);
+    }
+
+    private static void packsAgainAndAgain() {
+        WardrobeVault v = house(3, 1);
+        for (int n = 0; n < 3; n++) {
+            v.piece(1, 0, 0, 0, 100, 99);
+            v.wish(0, 0, n, 0, 0, 0);
+        }
+        v.show();
+        v.scene(1, 1, 1);
+        v.measure(2, 0, 101, 101, 101);
+        v.set(1, 'l', 110);
+        for (int n = 0; n < 2; n++) {
+            v.wish(1, 0, n, 0, 0, 0);
+        }
+        v.dress(1);
+        v.dress(0);
+        for (int n = 0; n < 20; n++) {
+            Due.is("33 all again", v.pack(0), 3);
+            for (int body = 0; body < 3; body++) {
+                Due.is("33 the same order again", v.trunk(v.given(0, body)), body);
+            }
+            Due.is("36 all again", v.unpack(), 3);
+            Due.is("33 the other show's", v.pack(1), 2);
+            Due.isTrue("45 just those", v.isSound());
+            Due.is("36 the other show's", v.unpack(), 2);
+        }
     }
 
     private static void hires() {
