@@ -1618,13 +1618,28 @@ public final class WardrobeVault {
             if (!isIn(givenUp, 1, MAX_COLUMNS)) {
                 return;
             }
+            int column = nextTight(row, 0, givenUp);
+            if (column == NONE) {
+                return;
+            }
             markChains(row, givenUp);
-            for (int column = 1; column < givenUp && column <= pieces; column++) {
-                if (reached[column] && reduced(row, column) == 0) {
+            for (int step = 0; step <= MAX_COLUMNS && column != NONE; step++) {
+                if (isIn(column, 0, MAX_COLUMNS) && reached[column]) {
                     moveAlong(row, column, givenUp);
                     return;
                 }
+                column = nextTight(row, column, givenUp);
             }
+        }
+
+        /** The first piece's column behind this one whose reduced cost is 0, NONE if there is none. */
+        int nextTight(int row, int behind, int end) {
+            for (int column = behind + 1; column < end && column <= pieces; column++) {
+                if (reduced(row, column) == 0) {
+                    return column;
+                }
+            }
+            return NONE;
         }
 
         void markChains(int row, int givenUp) {
