@@ -59,7 +59,7 @@ final class RobustTest {
             int call = n < 60 ? pick(0, 6, 7, 14, 15, 16) : below(NAMES.length);
             long before = seed;
             boolean look = below(8) == 0;
-            String digest = look ? digest(v) : "";
+            String digest = look ? Look.at(v) : "";
             try {
                 perform(v, call);
                 answered[call]++;
@@ -67,7 +67,7 @@ final class RobustTest {
                 thrown[call]++;
                 checkThrown(run, call, e);
                 if (look) {
-                    Due.same("run " + run + ", call " + n + " " + NAMES[call] + " seed " + before, digest(v), digest);
+                    Due.same("run " + run + ", call " + n + " " + NAMES[call] + " seed " + before, Look.at(v), digest);
                 }
             }
             Due.isTrue("45 run " + run + ", call " + n, v.isSound());
@@ -163,56 +163,6 @@ final class RobustTest {
             case "cleanShare" -> v.cleanShare();
             case "meanWear" -> v.meanWear();
             default -> v.isSound();
-        }
-    }
-
-    /** All that can be asked for without changing anything. */
-    private static String digest(WardrobeVault v) {
-        StringBuilder all = new StringBuilder();
-        for (int piece = 0; piece < 40; piece++) {
-            int number = piece;
-            ask(all, () -> v.place(number));
-            ask(all, () -> v.trunk(number));
-            for (char kind : "cwlfaousmv".toCharArray()) {
-                ask(all, () -> v.told(number, kind));
-            }
-            for (char kind : "cwl".toCharArray()) {
-                ask(all, () -> v.allowance(number, kind));
-            }
-        }
-        for (int body = 0; body < 10; body++) {
-            int number = body;
-            ask(all, () -> v.measured(number, 17, 'c') * 1000000 + v.measured(number, 23, 'w') * 1000
-                + v.measured(number, 9999, 'l'));
-        }
-        for (int show = 0; show < 3; show++) {
-            int number = show;
-            ask(all, () -> v.costumes(number));
-            for (int n = 0; n < 30; n++) {
-                int wish = n;
-                ask(all, () -> v.given(number, wish));
-            }
-            for (int n = 0; n < 10; n++) {
-                int body = n;
-                ask(all, () -> v.neck(number, body));
-            }
-            for (int n = 0; n < 6; n++) {
-                int scene = n;
-                ask(all, () -> v.needed(number, scene));
-            }
-        }
-        return all.append(v.orders()).append(' ').append(v.worth()).append(' ').append(v.kept()).toString();
-    }
-
-    private interface Question {
-        long asked();
-    }
-
-    private static void ask(StringBuilder all, Question question) {
-        try {
-            all.append(question.asked()).append(' ');
-        } catch (RuntimeException e) {
-            all.append(e.getClass().getSimpleName()).append(' ');
         }
     }
 }
