@@ -17,6 +17,9 @@ final class DressTest {
         for (int run = 0; run < 60; run++) {
             compare("large house " + run, 20 + below(11), 25 + below(16), true);
         }
+        for (int run = 0; run < 30; run++) {
+            compare("full house " + run, 30, 40, true);
+        }
         Due.end();
     }
 
@@ -57,6 +60,20 @@ final class DressTest {
             }
         }
         check(what, v, costs, large ? firstByForcing(costs, pieces) : firstOfAll(costs, pieces));
+        if (large) {
+            dressAgain(what + " again", v, costs, pieces);
+        }
+    }
+
+    /** Nothing of an earlier dressing may be left: some pieces are elsewhere now. */
+    private static void dressAgain(String what, WardrobeVault v, int[][] costs, int pieces) {
+        for (int p = 0; p < pieces; p += 3) {
+            v.quarantine(p);
+            for (int[] row : costs) {
+                row[p] = BARRED;
+            }
+        }
+        check(what, v, costs, firstByForcing(costs, pieces));
     }
 
     private static int cost(WardrobeVault v, int piece, int body, int colour) {
