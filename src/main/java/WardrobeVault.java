@@ -1101,7 +1101,7 @@ public final class WardrobeVault {
         }
 
         void putSizes(int slot, int day, int chest, int waist, int length) {
-            if (slot < 0 || slot >= MAX_MEASURED_DAYS) {
+            if (!isSlot(slot)) {
                 return;
             }
             days[slot] = day;
@@ -1111,9 +1111,16 @@ public final class WardrobeVault {
             dayCount = Math.max(dayCount, slot + 1);
         }
 
+        static boolean isSlot(int slot) {
+            return isIn(slot, 0, MAX_MEASURED_DAYS - 1);
+        }
+
         int[] paddedOn(int day) {
             int from = lastUpTo(day);
             int to = firstBehind(day, from);
+            if (!isSlot(from) || !isSlot(to)) {
+                return padded;
+            }
             int since = day - days[from];
             int span = days[to] - days[from];
             for (int i = 0; i < MEASURES; i++) {
@@ -1125,9 +1132,11 @@ public final class WardrobeVault {
         /** The slot of the last measured day up to this one; slot 0 keeps the day 0. */
         int lastUpTo(int day) {
             int best = 0;
+            int bestDay = 0;
             for (int i = 1; i < dayCount && i < MAX_MEASURED_DAYS; i++) {
-                if (days[i] <= day && days[i] > days[best]) {
+                if (days[i] <= day && days[i] > bestDay) {
                     best = i;
+                    bestDay = days[i];
                 }
             }
             return best;
@@ -1135,13 +1144,15 @@ public final class WardrobeVault {
 
         /** The slot of the first measured day behind this one, the one told if there is none. */
         int firstBehind(int day, int otherwise) {
-            int best = NONE;
+            int best = otherwise;
+            int bestDay = 0;
             for (int i = 0; i < dayCount && i < MAX_MEASURED_DAYS; i++) {
-                if (days[i] > day && (best < 0 || days[i] < days[best])) {
+                if (days[i] > day && (bestDay == 0 || days[i] < bestDay)) {
                     best = i;
+                    bestDay = days[i];
                 }
             }
-            return best < 0 ? otherwise : best;
+            return best;
         }
 
         static int between(int first, int last, int since, int span) {

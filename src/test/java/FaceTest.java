@@ -74,6 +74,7 @@ final class FaceTest {
         words(code);
         exceptions(code);
         shortMethods();
+        indexesAreLookedAt(code);
         Due.end();
     }
 
@@ -213,6 +214,24 @@ final class FaceTest {
         for (String line : Files.readAllLines(SOURCE, StandardCharsets.ISO_8859_1)) {
             lines = line.isEmpty() ? 0 : lines + 1;
             Due.isTrue("rule 11, some sixty lines: " + line, lines <= 60);
+        }
+    }
+
+    /** Methods stand apart; each name in an index is compared, or handed to a test, in the same one. */
+    private static void indexesAreLookedAt(String code) {
+        Pattern index = Pattern.compile("[\\w\\]]\\[([^\\[\\]]+)\\]");
+        Pattern name = Pattern.compile("\\b[a-z]\\w*(\\.\\w+)*");
+        for (String method : code.split("\n\n")) {
+            Matcher used = index.matcher(method);
+            while (used.find()) {
+                Matcher names = name.matcher(used.group(1));
+                while (names.find()) {
+                    String each = Pattern.quote(names.group());
+                    String looked = "\\b" + each + "\\s*([<>]|[=!]=)|\\b(is[A-Z]\\w*|hasScene)\\(" + each + "\\b";
+                    Due.isTrue("rule 7, the index " + used.group() + " is looked at in" + method,
+                        Pattern.compile(looked).matcher(method).find());
+                }
+            }
         }
     }
 }

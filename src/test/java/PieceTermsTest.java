@@ -26,6 +26,7 @@ final class PieceTermsTest {
         tenBodies();
         dayZeroIsAmongThem();
         betweenTwoDays();
+        daysToldInAnyOrder();
         roundedDown();
         onTheDaysThemselves();
         aheadOfTheFirstDay();
@@ -325,6 +326,25 @@ final class PieceTermsTest {
         Due.is("a day ahead of the third", v.measured(0, 29, 'c'), 129);
         v.measure(0, 21, 1, 1, 1);
         Due.is("the day told since then", v.measured(0, 22, 'c'), 1 + 129 / 9);
+    }
+
+    /** The two days between which a day lies are the nearest ones, in whatever order the days were told. */
+    private static void daysToldInAnyOrder() {
+        int[][] told = {{0, 100}, {10, 120}, {20, 110}, {40, 170}};
+        int[][] orders = {{1, 2, 3}, {1, 3, 2}, {2, 1, 3}, {2, 3, 1}, {3, 1, 2}, {3, 2, 1}};
+        int[][] due = {{0, 100}, {1, 102}, {9, 118}, {10, 120}, {11, 119}, {19, 111}, {20, 110}, {21, 113}, {39, 167},
+            {40, 170}, {41, 170}};
+        for (int[] order : orders) {
+            WardrobeVault v = one();
+            for (int n : order) {
+                v.measure(0, told[n][0], told[n][1], told[n][1], told[n][1]);
+            }
+            for (int[] day : due) {
+                for (char kind : MEASURES) {
+                    Due.is("told " + order[0] + order[1] + order[2] + ", day " + day[0], v.measured(0, day[0], kind), day[1]);
+                }
+            }
+        }
     }
 
     /** "rounded down" */

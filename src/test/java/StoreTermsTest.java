@@ -33,6 +33,7 @@ final class StoreTermsTest {
         everyTenthDay();
         mothsAfterSevenDays();
         mothsToAllOnTheRail();
+        mothsNotToWhatHasLeftTheRail();
         mothsWearEachDay();
         mothsOfThisDay();
         mothsWhereverTheyAre();
@@ -422,6 +423,30 @@ final class StoreTermsTest {
         v.pass(5);
         Due.is("the older day of a piece that had some stays", v.told(2, 'm'), 1);
         Due.is("not on other rails", v.told(0, 'm') + v.told(3, 'm'), 0);
+    }
+
+    /** "on its rail": in quarantine, in a trunk, hired out or gone, a piece is on none any more. */
+    private static void mothsNotToWhatHasLeftTheRail() {
+        WardrobeVault v = given(60, 60);
+        for (int n = 2; n < 6; n++) {
+            v.piece(1, 6, 9, 0, 100, 1);
+        }
+        Due.is("two trunks", v.pack(0), 2);
+        v.lose(1);
+        v.quarantine(2);
+        v.hire(3, 9, 0);
+        v.moths(4);
+        v.pass(8);
+        Due.is("on the rail", v.told(5, 'm'), 1);
+        Due.is("in a trunk", v.told(0, 'm'), 0);
+        Due.is("gone", v.told(1, 'm'), 0);
+        Due.is("in quarantine", v.told(2, 'm'), 0);
+        Due.is("hired out", v.told(3, 'm'), 0);
+        Due.is("no wear", v.told(0, 'u') + v.told(2, 'u') + v.told(3, 'u'), 0);
+        v.takeBack(3, 0);
+        v.hang(3, 1);
+        v.pass(1);
+        Due.is("back on the rail", v.told(3, 'm'), 1);
     }
 
     /** "pieces with moths ... get 1 more of wear" */
